@@ -271,6 +271,16 @@ public final class LendTest {
         due.is("11: item(5, 0)", x.item(5, 0), -1);
         due.is("11: item(30, 0)", x.item(30, 0), -1);
 
+        x.offline(true);
+        Due.openSession(x, 2);
+        Due.scanAndLend(x, 8);
+        x.back(8);
+        due.is("11: end(true) offline, its row is the first", x.end(true), 0);
+        due.is("11: rows()", x.rows(), 1);
+        x.offline(false);
+        due.is("11: join(1), the return alone is left", x.join(1), 1);
+        due.is("11: clash(0, 2)", x.clash(0, 2), 1);
+
         // Online no row goes, though an older one stands there.
         x.offline(true);
         Due.lendAll(x, 2, 6, 6);
